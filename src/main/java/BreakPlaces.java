@@ -226,13 +226,31 @@ public final class BreakPlaces {
         if (room < 1 || room > MOST_CHARACTERS) {
             throw new IllegalArgumentException("room is not 1 .. 2000");
         }
-        return place == length ? 0 : lineLength(place, room);
+        int fitting = place == length ? 0 : room;
+        int inked = place;
+        for (int q = place + 1; q <= length; q++) {
+            if (!isIn(kindAt(q - 1), BLANKS)) {
+                inked = q;
+            }
+            if (inked - place > room) {
+                break;
+            }
+            int how = breaksAt(q);
+            if (how != FORBIDDEN) {
+                fitting = q - place;
+            }
+            if (how == MUST) {
+                break;
+            }
+        }
+        return fitting;
     }
 
     public int count(int what) {
         if (what == 0) {
             return length;
         }
+        // The two other numbers are those that the places themselves answer.
         if (what != MAY && what != MUST) {
             return NONE;
         }
@@ -287,7 +305,7 @@ public final class BreakPlaces {
 
     private void putGiven(int from, int to, int many) {
         int tail = length - to;
-        if (tail > 0 && from + many != to) {
+        if (tail > 0) {
             System.arraycopy(text, to, text, from + many, tail);
             System.arraycopy(classes, to, classes, from + many, tail);
         }
@@ -321,27 +339,6 @@ public final class BreakPlaces {
             default:
                 return classes[position];
         }
-    }
-
-    private int lineLength(int place, int room) {
-        int best = NONE;
-        int inked = place;
-        for (int q = place + 1; q <= length; q++) {
-            if (!isIn(kindAt(q - 1), BLANKS)) {
-                inked = q;
-            }
-            if (inked - place > room) {
-                break;
-            }
-            int how = breaksAt(q);
-            if (how != FORBIDDEN) {
-                best = q;
-            }
-            if (how == MUST) {
-                break;
-            }
-        }
-        return best == NONE ? room : best - place;
     }
 
     private int breaksAt(int place) {

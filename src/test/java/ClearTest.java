@@ -18,6 +18,28 @@ public final class ClearTest {
         checks.same("clear of the new text", x.clear(), 5);
         Texts.append(x, "RI RI");
         checks.sameText("no RI of an older text counts", Texts.rules(x), "20 301 30");
+        checkNothingIsLeft(checks);
         checks.finish();
+    }
+
+    /** What was read of an older text must not be seen by the rules of a new one. */
+    private static void checkNothingIsLeft(Checks checks) {
+        String[][] cases = {
+            {"RI RI RI", "RI RI RI", "20 301 310 30"},
+            {"AL OP SP", "SP AL", "20 180 30"},
+            {"AL QU SP", "SP OP", "20 180 30"},
+            {"AL ZW SP", "SP AL", "20 180 30"},
+            {"AL HL", "HY ID", "20 310 30"},
+            {"HL HY", "CM AL", "20 280 30"},
+            {"AL ZWJ", "AL ID", "20 310 30"},
+            {"AL BK", "AL ID", "20 310 30"},
+            {"AL GL", "CM ID", "20 310 30"}};
+        for (String[] one : cases) {
+            BreakPlaces x = Texts.of(one[0]);
+            Texts.rules(x);
+            x.clear();
+            Texts.append(x, one[1]);
+            checks.sameText(one[1] + " behind " + one[0], Texts.rules(x), one[2]);
+        }
     }
 }

@@ -13,8 +13,12 @@ public final class ModelTest {
     public static void main(String[] args) {
         checkShortTexts();
         checkTextsThatRepeat();
+        checkTextsBehindOthers();
         for (int seed = 1; seed <= 400; seed++) {
             new Run(seed, 44 + seed % 40).go();
+        }
+        for (int seed = 1001; seed <= 1006; seed++) {
+            new Run(seed, 2000).goLong();
         }
         CHECKS.finish();
     }
@@ -40,8 +44,29 @@ public final class ModelTest {
         }
     }
 
+    /** Whatever an object has read before, a change makes it read the text that there is now. */
+    private static void checkTextsBehindOthers() {
+        for (String a : Texts.NAMES) {
+            for (String b : Texts.NAMES) {
+                String text = b + " SP " + b + " " + b + " ID";
+                BreakPlaces x = Texts.of("AL " + a + " " + a + " SP");
+                x.rule(2);
+                x.clear();
+                Texts.append(x, text);
+                checkText(x, text);
+                x.replace(0, 1, Texts.character(a), BreakPlaces.NONE, BreakPlaces.NONE);
+                checkText(x, a + " SP " + b + " " + b + " ID");
+                x.replace(1, 2, BreakPlaces.NONE, BreakPlaces.NONE, BreakPlaces.NONE);
+                checkText(x, a + " " + b + " " + b + " ID");
+            }
+        }
+    }
+
     private static void checkText(String names) {
-        BreakPlaces x = Texts.of(names);
+        checkText(Texts.of(names), names);
+    }
+
+    private static void checkText(BreakPlaces x, String names) {
         PlainModel model = new PlainModel();
         for (int k = 0; k < Texts.NAMES.size(); k++) {
             model.property(1000 + k, 1000 + k, k);
@@ -77,6 +102,31 @@ public final class ModelTest {
             while (calls < MOST_CALLS - 2) {
                 step();
             }
+        }
+
+        /** Up to the greatest text there may be; few questions, for the model is slow in long texts. */
+        void goLong() {
+            for (int k = 0; k < 30; k++) {
+                property(1000 + k, 1000 + k, random.nextInt(44));
+            }
+            while (calls < MOST_CALLS - 64) {
+                add(plain(), plain(), plain(), plain(), plain());
+            }
+            while (calls < MOST_CALLS - 2) {
+                int place = place(model.count(0));
+                switch (random.nextInt(4)) {
+                    case 0 -> replace(place, place + random.nextInt(2), plain(), plain(), some());
+                    case 1 -> same("next(" + place + ")", () -> x.next(place), () -> model.next(place));
+                    case 2 -> same("fit(" + place + ", 60)",
+                            () -> x.fit(place, 60), () -> model.fit(place, 60));
+                    default -> same("rule(" + place + ")", () -> x.rule(place), () -> model.rule(place));
+                }
+            }
+            same("count(0)", () -> x.count(0), () -> model.count(0));
+        }
+
+        private int plain() {
+            return 1000 + random.nextInt(40);
         }
 
         private void step() {

@@ -1,5 +1,7 @@
 import java.util.ArrayList;
+import java.util.HashMap;
 import java.util.List;
+import java.util.Map;
 import java.util.regex.Pattern;
 
 /**
@@ -18,7 +20,7 @@ final class PlainModel {
         }
 
         boolean holds(String left, String right) {
-            return before.matcher(left).find() && behind.matcher(right).find();
+            return behind.matcher(right).find() && before.matcher(left).find();
         }
     }
 
@@ -105,8 +107,9 @@ final class PlainModel {
     private final List<Range> classes = new ArrayList<>();
     private final List<List<Range>> marks = List.of(new ArrayList<>(), new ArrayList<>());
     private boolean loose = false;
-    /** The characters as they are written for the patterns; null after a change. */
-    private List<String> words = null;
+    /** What has been found since the last change: the characters as written, and the verdicts. */
+    private final List<String> words = new ArrayList<>();
+    private final Map<Integer, int[]> verdicts = new HashMap<>();
 
     private static boolean isCharacter(int c) {
         return 0 <= c && c <= GREATEST;
@@ -132,9 +135,13 @@ final class PlainModel {
         };
     }
 
+    private void forget() {
+        words.clear();
+        verdicts.clear();
+    }
+
     private String written(int from, int to) {
-        if (words == null) {
-            words = new ArrayList<>();
+        if (words.isEmpty()) {
             for (int c : text) {
                 words.add(" " + nameOf(c) + ":" + (lastTold(marks.get(0), c, 0) == 1 ? 'w' : '-')
                         + (lastTold(marks.get(1), c, 0) == 1 ? 'p' : '-'));
@@ -145,6 +152,10 @@ final class PlainModel {
 
     /** The number of the rule, and what it says: two numbers. */
     private int[] verdict(int place) {
+        return verdicts.computeIfAbsent(place, this::findVerdict);
+    }
+
+    private int[] findVerdict(int place) {
         if (place == 0) {
             return new int[] {20, 0};
         }
@@ -177,7 +188,7 @@ final class PlainModel {
             throw new IllegalStateException();
         }
         classes.add(new Range(first, last, kind));
-        words = null;
+        forget();
     }
 
     void mark(int first, int last, int what, boolean are) {
@@ -188,13 +199,13 @@ final class PlainModel {
             throw new IllegalStateException();
         }
         marks.get(what).add(new Range(first, last, are ? 1 : 0));
-        words = null;
+        forget();
     }
 
     boolean loose(boolean is) {
         boolean was = loose;
         loose = is;
-        words = null;
+        forget();
         return was;
     }
 
@@ -225,14 +236,14 @@ final class PlainModel {
         }
         text.subList(from, to).clear();
         text.addAll(from, come);
-        words = null;
+        forget();
         return text.size();
     }
 
     int clear() {
         int had = text.size();
         text.clear();
-        words = null;
+        forget();
         return had;
     }
 

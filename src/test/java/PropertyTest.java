@@ -58,6 +58,10 @@ public final class PropertyTest {
         checks.sameText("rules with one more", Texts.rules(x), "20 70 140 130 30");
         x.replace(0, 1, 6, 8, NONE);
         checks.sameText("rules with told ones put in", Texts.rules(x), "20 130 70 180 130 30");
+        BreakPlaces ri = Texts.of("RI RI RI");
+        checks.sameText("rules of RI", Texts.rules(ri), "20 301 310 30");
+        ri.property(0, 0, Texts.classOf("SP"));
+        checks.sameText("rules of RI, another class told", Texts.rules(ri), "20 301 310 30");
     }
 
     private static void checkWrongArguments(Checks checks) {
