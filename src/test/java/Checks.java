@@ -1,9 +1,30 @@
 /** Counts the answers that are not as due, and ends a test with exit code 1 if there was one. */
 final class Checks {
-    private static final int MOST_SHOWN = 50;
+    /** Of each sentence: a fault that breaks many of them is told for all. */
+    private static final int MOST_SHOWN = 5;
 
     private int wrong = 0;
+    private int shown = 0;
     private int looked = 0;
+    private int sentences = 0;
+    private String sentence = "";
+
+    /** A test of its own for a sentence of the document; its faults are told under these words. */
+    void sentence(String words, Runnable test) {
+        int lookedBefore = looked;
+        sentence = words;
+        sentences++;
+        shown = 0;
+        try {
+            test.run();
+        } catch (RuntimeException thrown) {
+            tell("an unexpected " + thrown + " at " + thrown.getStackTrace()[0]);
+        }
+        if (looked == lookedBefore) {
+            tell("nothing was looked at");
+        }
+        sentence = "";
+    }
 
     void same(String what, long got, long due) {
         looked++;
@@ -48,15 +69,27 @@ final class Checks {
         isThrown(what, IndexOutOfBoundsException.class, call);
     }
 
+    /** For a call that must not throw and answers nothing. */
+    void isTaken(String what, Runnable call) {
+        looked++;
+        try {
+            call.run();
+        } catch (RuntimeException thrown) {
+            tell(what + " threw " + thrown + ", due is nothing");
+        }
+    }
+
     private void tell(String fault) {
         wrong++;
-        if (wrong <= MOST_SHOWN) {
-            System.out.println(fault);
+        shown++;
+        if (shown <= MOST_SHOWN) {
+            System.out.println(sentence.isEmpty() ? fault : "\"" + sentence + "\": " + fault);
         }
     }
 
     void finish() {
-        System.out.println(looked + " answers looked at, " + wrong + " not as due");
+        String of = sentences == 0 ? "" : " for " + sentences + " sentences";
+        System.out.println(looked + " answers looked at" + of + ", " + wrong + " not as due");
         if (wrong != 0 || looked == 0) {
             System.exit(1);
         }
