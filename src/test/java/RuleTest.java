@@ -348,7 +348,7 @@ public final class RuleTest {
                 manyBetween(one[0], "SP", many, one[1], Integer.parseInt(one[2]), 0);
             }
         }
-        // Two only with SP between: nothing else is passed over.
+        // Nothing but SP is passed over.
         due("OP GL SP ID", "121 70 180", "001");
         due("B2 LF SP B2", "60 50 180", "021");
     }
