@@ -74,7 +74,8 @@ public final class ReadmeTest {
     private String is(String call) {
         String line = lines.isEmpty() ? "" : lines.remove(0);
         int comment = line.indexOf("//");
-        CHECKS.sameText("a call of the example", comment < 0 ? line : line.substring(0, comment).trim(), call);
+        String shown = comment < 0 ? line : line.substring(0, comment).trim();
+        CHECKS.sameText("a call of the example", shown, call);
         return comment < 0 ? "" : line.substring(comment + 2).trim();
     }
 
